@@ -1,3 +1,4 @@
+/** Leaves in a cup of rings and heights, rows of doings with it, drag pictures, and a river. */
 public final class LeavesInCups {
     public static final int NONE = -1, UNKNOWN = -101, OUTSIDE = -102, STATE = -103, FULL = -104;
 
@@ -310,12 +311,14 @@ public final class LeavesInCups {
         }
 
         private void slow(Cup cup, int base) {
+            int floor = cup.floorTenths();
             for (int ring = 0; ring < cup.rings(); ring++) {
-                rounds[ring][0] = base + left(rounds[ring][0] - base, cup.floorTenths());
+                rounds[ring][0] = base + left(rounds[ring][0] - base, floor);
             }
             int last = cup.rings() - 1;
+            int wall = cup.wallTenths();
             for (int height = 0; height < cup.heights() && last >= 0; height++) {
-                rounds[last][height] = base + left(rounds[last][height] - base, cup.wallTenths());
+                rounds[last][height] = base + left(rounds[last][height] - base, wall);
             }
         }
 
@@ -325,10 +328,12 @@ public final class LeavesInCups {
         }
 
         private void blend(Cup cup) {
+            int mix = cup.mixTwentieths();
+            int top = cup.heights() - 1;
             for (int ring = 0; ring < cup.rings(); ring++) {
-                for (int height = 0; height + 1 < cup.heights(); height++) {
+                for (int height = 0; height < top; height++) {
                     int more = rounds[ring][height + 1] - rounds[ring][height];
-                    int goes = more * cup.mixTwentieths() / 20;
+                    int goes = more * mix / 20;
                     rounds[ring][height] += goes;
                     rounds[ring][height + 1] -= goes;
                 }

@@ -20,28 +20,31 @@ public final class AllTest {
         due.is("none was kept", x.restore(), STATE);
         x.doing(STIRRED, 10);
         x.leaf(2, 0, 0);
+        x.want(0, 6);
         x.want(1, 4);
         x.seen(0, 1);
         x.ticks(0, 1);
         x.image();
 
         x.ticks(0, 4);
+        x.want(0, 7);
         x.want(1, 5);
         x.want(2, 8);
         x.seen(0, 2);
         x.leaf(2, 0, 0);
-        x.seen(1, 0);
+        x.seen(1, 2);
         x.ticks(NONE, 1);
         x.doing(STIRRED, 3);
         Made.row(x, "0*1");
         due.is("all leaves", x.restore(), 2);
         due.is("rounds", x.round(0, 1), 10);
         due.is("where a leaf was", x.about(0, 0), 1);
+        due.is("what was wanted", x.want(0, 6), 6);
         due.is("what was wanted", x.want(1, 4), 4);
         due.is("what was not wanted", x.want(2, 0), 0);
         due.is("what was seen", x.about(0, 5), 1);
         due.is("one that came since stays where it is", x.about(1, 0), 1);
-        due.is("as it was seen", x.about(1, 5), 0);
+        due.is("as it was seen", x.about(1, 5), 2);
         due.is("where it was told", x.about(1, 1), 2);
         due.is("doings go on", x.count(1), 2);
         due.is("rows go on", x.count(3), 1);
@@ -65,6 +68,35 @@ public final class AllTest {
         due.is("kept anew", x.restore(), 0);
         Made.river(x, "1,2,3,4");
         due.is("a river is no cup", x.restore(), 0);
+
+        LeavesInCups z = Made.withCup("r6h4f9w0m0");
+        z.doing(3, 40);
+        z.leaf(5, 0, 9);
+        z.want(5, 7);
+        z.ticks(0, 1);
+        z.image();
+        z.want(5, 1);
+        z.still();
+        z.restore();
+        due.is("the floor of the largest cup", z.round(5, 0), 36);
+        due.is("its last ring, wanted", z.want(5, 0), 7);
+
+        LeavesInCups w = Made.withCup("r2h2f0w0m0");
+        w.doing(STIRRED, 20);
+        for (int leaf = 0; leaf < 8; leaf++) {
+            w.leaf(1, 0, 0);
+            w.seen(leaf, leaf % 2);
+        }
+        due.is("an image of eight", w.image(), 8);
+        due.is("all go in", w.ticks(0, 1), 8);
+        for (int leaf = 0; leaf < 8; leaf++) {
+            w.seen(leaf, NONE);
+        }
+        due.is("all eight", w.restore(), 8);
+        for (int leaf = 0; leaf < 8; leaf++) {
+            due.is("where it was", w.about(leaf, 0), 1);
+            due.is("as it was seen", w.about(leaf, 5), leaf % 2);
+        }
 
         LeavesInCups y = Made.withCup("r2h2f0w0m0");
         y.leaf(1, 0, 0);
@@ -145,6 +177,21 @@ public final class AllTest {
             -9, 8, 5, 0, 6, 1, 70, 0, 0, 0,
             2, 2, 2, 2, 1, 4, 0, 1, 1));
         due.is("asked twice", x.digest(), x.digest());
+        Made.row(x, "7*1");
+        due.is("the last row alone leaves both", x.ends(2, 1) * 10 + x.ends(1, 1), 10);
+        x.blank();
+        LeavesInCups y = Made.withCup("r4h2f9w0m0");
+        y.doing(STIRRED, 10);
+        y.doing(3, 10);
+        y.leaf(2, 0, 0);
+        Made.row(y, "0*1");
+        Made.row(y, "1*2");
+        y.lies(0, 0);
+        due.is("where leaves end by each row", y.digest(), digestOf(
+            4, 2, 9, 0, 0, 0, 0, 0, 0, 0, 0, 0, 0, 0, 0, 0, 0, 0, 0, 0, 0, 0,
+            1, 10, 3, 10, 2, 2, 0, 0, 0, NONE,
+            1, 0, 1, 0, 1, 1, 2, 3,
+            4, 2, 1, 2, 0, 0, 0, 1, 0));
         due.is("it changes no leaf", x.about(0, 0), 1);
         due.is("it changes no water", x.round(1, 2), 19);
     }

@@ -107,6 +107,10 @@ public final class DoingsTest {
         due.is("its pull", x.about(0, 4), -23);
         due.is("pull of a light one", x.about(1, 4), -13);
         due.is("pull without weight", x.about(2, 4), -12);
+        x.ticks(0, 1);
+        // The floor goes 40: second is -16; weight 9 takes 14400 by 1000 more.
+        due.is("its pull then", x.about(0, 4), -30);
+        due.is("that of a light one then", x.about(1, 4), -17);
         x.seen(0, 3);
         due.is("seen", x.about(0, 5), 3);
         due.is("about(0, -1)", x.about(0, -1), OUTSIDE);
@@ -115,6 +119,19 @@ public final class DoingsTest {
         due.is("about(3, 0)", x.about(3, 0), UNKNOWN);
         due.is("UNKNOWN ahead of OUTSIDE", x.about(3, 6), UNKNOWN);
         due.is("without a leaf", new LeavesInCups().about(0, 0), UNKNOWN);
+
+        LeavesInCups y = Made.withCup("r2h2f9w0m0");
+        y.doing(3, 40);
+        y.leaf(1, 5, 9);
+        y.ticks(0, 2);
+        due.is("8000 by 1000", y.about(0, 4), -24);
+        LeavesInCups z = Made.withCup("r2h3f0w0m5");
+        z.doing(1, 20);
+        z.leaf(1, 9, 9);
+        z.ticks(0, 100);
+        due.is("the floor follows", z.round(1, 0), 96);
+        // Second is 9801 less 9216 by 100, so 5; weight 9 takes 82944 by 1000.
+        due.is("82944 by 1000", z.about(0, 4), -77);
     }
 
     public static void main(String[] args) {

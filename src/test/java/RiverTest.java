@@ -50,6 +50,9 @@ public final class RiverTest {
         points("0,50,0,0", 1, 0, 49, 0, 0, 0, 0);
         points("60,5,60,60", 1, 0, 55, 60, 5, 60, 60);
         points("60,5,60,60", 1, 0, 54, 60, 60, 60, 60);
+        points("60,5,70,70", 1, 0, 55, 60, 5, 70, 70);
+        points("70,5,60,60", 1, 0, 55, 70, 5, 60, 60);
+        points("70,4,60,60", 1, 0, 55, 70, 65, 60, 60);
         points("0,50,4,9", 1, 0, 45, 0, 2, 4, 9);
         points("0,50,5,9", 1, 0, 45, 0, 50, 5, 9);
         points("5,50,0,0", 1, 0, 45, 5, 50, 0, 0);
@@ -114,7 +117,7 @@ public final class RiverTest {
         firstCut("0,10,0,0", 1, 10, 0);
         firstCut("0,9,0,0", 1, 9, NONE);
         firstCut("0,50h,0,0", 9, 1, NONE);
-        firstCut("28h,94h,79h,88,40,28,46,51,36,0", 1, 87, 89);
+        firstCut("99,51,36,46,51,36,0,49h,3,12h", 1, 98, 90);
         due.is("without a river", new LeavesInCups().firstCut(0, 1), STATE);
     }
 
@@ -128,12 +131,15 @@ public final class RiverTest {
         saves("0,0,50,0,0", 1, 0, 49, 2);
         // Two are cut off, or one if one of them is held: 0 0 50 0 0 0 0 either way, bends 50 100 50.
         saves("0,0,50,0,50,0,0", 1, 0, 49, 2);
-        // None is cut off; 2 times 19 and more, or 2 times 10, are the bends in the end.
+        // None is cut off; the bends in the end are -19, 38, -19, or with 2 held -10, 20, -10.
         saves("0,0,10,0,0", 1, 9, 99, 2);
         // Fewer cuts go ahead of smaller bends: held, the second keeps its bend.
         saves("0,0,99,0,0", 1, 0, 10, 2);
-        // Bends of held ones are counted, too, those of the first and the last are not.
-        saves("0,10h,0,0,20,0,99", 1, 9, 99, 4);
+        // With 1 held, 40 49 20 and bends 11, 38, -39; with 2 held, 49 40 20 and 38, 11, -30 (3 is held, but counts).
+        saves("20h,40,40,20h,30", 1, 9, 99, 2);
+        // With 2 held, 40 40 31 and bends 30, 9, 12; with 3 held, 40 41 30 and 29, 12, 9.
+        saves("10h,40h,40,30,10", 1, 3, 99, 3);
+        saves("0,0,0,0,0,0,0,0,0,0", 1, 9, 99, 1);
         due.is("without a river", new LeavesInCups().saves(0, 0, 1), STATE);
         LeavesInCups x = Made.withRiver("0,0,50,0,0");
         x.saves(1, 0, 49);

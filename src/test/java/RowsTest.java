@@ -47,14 +47,20 @@ public final class RowsTest {
         y.leaf(0, 0, 0);
         Made.row(y, "1*3,4*2,1*3");
         due.is("items one behind the other: out, out, wait, out", y.ends(3, 0), 3);
+        Made.row(y, "1*1,4*1,1*2,4*1,4*1,1*2");
+        due.is("six items: out by the second tick of the third, and of the sixth", y.ends(4, 0), 2);
         Made.row(y, "0*1,1*60");
-        due.is("stirring goes against the turning", y.ends(4, 0), 0);
-        Made.row(y, "7*1");
-        due.is("doing 7 is not", y.ends(5, 0), 0);
+        due.is("stirring goes against the turning", y.ends(5, 0), 0);
+
+        LeavesInCups w = threeRows();
+        w.leaf(0, 0, 0);
+        due.is("doing 7 is not", w.ends(2, 0), 0);
         for (int i = 0; i < 6; i++) {
-            y.doing(TURNED, 40);
+            w.doing(TURNED, 40);
         }
-        due.is("doing 7 is", y.ends(5, 0), 1);
+        due.is("5 and 7 are: out to the rim", w.ends(2, 0), 3);
+        Made.row(w, "7*1");
+        due.is("doing 7 is", w.ends(3, 0), 1);
 
         LeavesInCups z = new LeavesInCups();
         Made.row(z, "0*1");
@@ -199,15 +205,27 @@ public final class RowsTest {
         due.is("OUTSIDE ahead of it", x.found(3), OUTSIDE);
         due.is("twelve", x.count(8), 12);
 
-        // 8 leaves that stick can not be brought in; a leaf that does not goes by the round 10.
-        LeavesInCups y = Made.withCup("r2h2f0w0m0");
-        y.leaf(1, 0, 0);
-        due.is("the rim is wanted by none", y.found(2), 1);
-        y.want(1, 1);
+        LeavesInCups most = Made.withCup("r2h3f2w2m1q");
+        most.leaf(1, 2, 6);
+        most.want(0, 1);
+        due.is("by no less than 20", most.found(0), 20);
+        due.is("in no less than 6 ticks", most.found(1), 6);
+        due.is("none off", most.found(2), 0);
+        LeavesInCups more = Made.withCup("r2h2f0w4m1");
+        more.leaf(1, 3, 6);
+        more.want(0, 1);
+        due.is("21 would do it", more.found(0), 1);
+        due.is("but 20 do not", more.found(2), 2);
+
+        // The leaf goes in by the round 10, and on in the 60 rests.
+        LeavesInCups y = Made.withCup("r6h2f0w0m0");
+        y.leaf(5, 0, 0);
+        due.is("none is wanted", y.found(2), 1);
+        y.want(5, 1);
         due.is("stirred least", y.found(0), 1);
         due.is("for the shortest", y.found(1), 1);
         due.is("it stays", y.found(2), 0);
-        y.want(1, 0);
+        y.want(5, 0);
         y.want(0, 1);
         due.is("10 ticks by 1", y.found(0), 1);
         due.is("10 ticks by 1", y.found(1), 10);
@@ -255,6 +273,13 @@ public final class RowsTest {
         x.seen(0, NONE);
         x.seen(1, NONE);
         due.is("seen no more", x.read(), 7);
+        for (int leaf = 2; leaf < 8; leaf++) {
+            x.leaf(1, 0, leaf - 2);
+            x.seen(leaf, 1);
+        }
+        due.is("eight leaves, one of them without stick", x.read(), 4);
+        x.seen(2, 2);
+        due.is("it goes outwards", x.read(), 2);
     }
 
     private static void promise26() {
@@ -275,6 +300,21 @@ public final class RowsTest {
         x.leaf(3, 0, 1);
         x.leaf(3, 0, 1);
         due.is("different ones alone are counted", x.tells(), 2);
+
+        LeavesInCups y = Made.withCup("r3h2f9w0m0");
+        y.doing(STIRRED, 10);
+        Made.row(y, "5*1");
+        Made.row(y, "0*1");
+        y.leaf(1, 0, 0);
+        y.leaf(1, 0, 9);
+        due.is("the heap counts, too", y.tells(), 1);
+        LeavesInCups z = Made.withCup("r3h2f9w0m0");
+        z.doing(TURNED, 10);
+        Made.row(z, "5*1");
+        Made.row(z, "0*2");
+        z.leaf(1, 0, 0);
+        z.leaf(1, 0, 9);
+        due.is("and the rim", z.tells(), 1);
     }
 
     private static void promise27() {
@@ -332,6 +372,7 @@ public final class RowsTest {
         due.is("all sizes together", dragOf(50, 50, 50, 40), 0);
         due.is("two against one", dragOf(50, 50, 50, 40, 50, 40), 2);
         due.is("a 0 tells nothing", dragOf(0, 50, 10, 5), 5);
+        due.is("twelve", dragOf(10, 3, 10, 3, 10, 3, 10, 3, 10, 3, 10, 3, 10, 9, 10, 9, 10, 9, 10, 9, 10, 9, 10, 3), 7);
     }
 
     public static void main(String[] args) {

@@ -86,6 +86,9 @@ public final class TextsTest {
         fault("r2h2f0w0m00", 0, 10);
         fault("r2h2f0w0m0qq", 0, 11);
         fault("r2h2f0w0q", 0, 8);
+        fault("r2h2fx", 0, 5);
+        fault("r2h2f0wx", 0, 7);
+        fault("r2h2f0w0mx", 0, 9);
 
         fault("0*1", 1, 3);
         fault("7*60", 1, 4);
@@ -191,6 +194,17 @@ public final class TextsTest {
             due.is("one more row", Made.row(x, "1*" + i), i);
         }
         due.is("STATE ahead of FULL", Made.row(x, "1"), STATE);
+        LeavesInCups y = new LeavesInCups();
+        Made.write(y, "1*2");
+        for (int i = 0; i < 9; i++) {
+            due.is("looked at for faults", y.fault(1), 3);
+        }
+        due.is("and then read", y.row(), 0);
+        long h = 443;
+        for (int number : new int[] {1, 1, 2, 0, 0, 0, 1, 0, 0, 0, 0, 0}) {
+            h = 31 * h + number;
+        }
+        due.is("it has one item", y.digest(), h);
         Made.write(x, "*5");
         due.is("a seventh row", x.row(), FULL);
         due.is("its page stays", x.count(6), 3);
@@ -216,6 +230,10 @@ public final class TextsTest {
         due.is("points told", x.count(5), 10);
         x.fault(2);
         due.is("a fault in sort 2 leaves it", x.count(5), 10);
+        x.blank();
+        Made.river(x, "0,50,0,0");
+        Made.river(x, "0,50,0,0");
+        due.is("none is held by an older river", x.cuts(1, 0, 1), 1);
         due.is("eleven points", Made.river(x, "1,2,3,4,5,6,7,8,9,10,11"), STATE);
     }
 
@@ -236,6 +254,8 @@ public final class TextsTest {
         }
         Made.cup(x, "r2h4f0w9m3");
         due.is("not square again", x.cupTold(5), 0);
+        Made.cup(x, "r3h4f0w9m3");
+        due.is("nor in the third", x.cupTold(5), 0);
     }
 
     public static void main(String[] args) {

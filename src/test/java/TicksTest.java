@@ -21,6 +21,8 @@ public final class TicksTest {
 
     private static void stirring() {
         rounds("stirred", after("r2h3f0w0m0", STIRRED, 5, 1), 0, 0, 5, 5);
+        rounds("stirred, in the largest cup", after("r6h4f0w0m0", STIRRED, 5, 2), 5, 0, 10, 10, 10);
+        rounds("against by 1", after("r2h2f0w0m0", AGAINST, 1, 1), 0, 0, -1);
         rounds("stirred, 99 at most", after("r2h2f0w0m0", STIRRED, 20, 5), 1, 0, 99);
         rounds("against", after("r2h3f0w0m0", AGAINST, 5, 2), 1, 0, -10, -10);
         rounds("against, -99 at least", after("r2h2f0w0m0", AGAINST, 20, 5), 0, 0, -99);
@@ -31,6 +33,11 @@ public final class TicksTest {
         x.ticks(1, 1);
         rounds("strawed", x, 0, 0, 49);
         rounds("strawed, but not there", x, 1, 0, 99);
+        LeavesInCups w = after("r6h4f0w0m0", STIRRED, 9, 1);
+        w.doing(STRAWED, 0);
+        w.ticks(1, 1);
+        rounds("strawed, in the largest cup", w, 0, 0, 4, 4, 4);
+        rounds("strawed, but not there", w, 1, 0, 9, 9, 9);
         LeavesInCups y = after("r2h2f0w0m0", AGAINST, 5, 1);
         y.doing(STRAWED, 0);
         y.ticks(1, 1);
@@ -55,8 +62,10 @@ public final class TicksTest {
         rounds("dragged by the wall", after("r2h2f0w4m0", TURNED, 10, 1), 1, 4, 4);
         rounds("but in the last ring alone", after("r2h2f0w4m0", TURNED, 10, 1), 0, 0, 0);
         rounds("square: by twice the wall", after("r2h2f0w4m0q", TURNED, 10, 1), 1, 8, 8);
-        rounds("square: 10 tenths", after("r2h2f0w5m0q", TURNED, 7, 1), 1, 7, 7);
-        rounds("square: 10 tenths at most", after("r3h2f0w9m0q", TURNED, 7, 1), 2, 7, 7);
+        rounds("square: 10 tenths", after("r2h2f0w5m0q", TURNED, 40, 1), 1, 40, 40);
+        rounds("square: 10 tenths at most", after("r3h2f0w9m0q", TURNED, 40, 1), 2, 40, 40);
+        rounds("not square: 9 tenths", after("r2h2f0w9m0", TURNED, 40, 1), 1, 36, 36);
+        rounds("the largest cup", after("r6h4f0w9m0q", TURNED, 40, 1), 5, 40, 40, 40, 40);
         rounds("by the floor, then by the wall", after("r2h2f5w5m0", TURNED, 20, 1), 1, 15, 10);
         rounds("stirred, then dragged", after("r2h2f0w1m0", STIRRED, 19, 1), 1, 0, 17);
         rounds("against, then dragged", after("r2h2f0w1m0", AGAINST, 19, 1), 1, 0, -17);
@@ -103,13 +112,12 @@ public final class TicksTest {
         due.is("on to the rim", y.ticks(0, 100), 1);
         due.is("the rim", y.about(0, 0), 3);
 
-        // There and back: in another ring than ahead of all is none.
-        LeavesInCups z = Made.withCup("r2h2f9w0m9");
-        z.doing(TURNED, 40);
-        z.doing(STIRRED, 20);
-        z.leaf(0, 0, 0);
-        due.is("outwards", z.ticks(0, 1), 1);
-        due.is("at the rim", z.about(0, 0), 1);
+        LeavesInCups z = Made.withCup("r6h4f9w0m0");
+        z.doing(STIRRED, 10);
+        z.leaf(5, 9, 0);
+        due.is("a leaf goes through the largest cup", z.ticks(0, 4), 1);
+        due.is("four rings", z.about(0, 0), 1);
+        due.is("the last one", z.ticks(NONE, 1), 1);
     }
 
     private static void refusals() {
@@ -138,6 +146,7 @@ public final class TicksTest {
         x.want(1, 4);
         x.seen(0, 1);
         x.ticks(0, 1);
+        due.isTrue("the floor goes round", x.round(0, 0) > 0);
         due.is("a leaf went", x.about(0, 0), 1);
         due.is("still()", x.still(), 1);
         rounds("still", x, 0, 0, 0);
