@@ -357,12 +357,12 @@ public final class LeavesInCups {
                 return 0;
             }
             int floor = rounds[ring][0];
-            return secondTurning(cup, ring) - leaves.weight[leaf] * floor * floor / 1000;
+            return secondTurning(ring, cup.heights()) - leaves.weight[leaf] * floor * floor / 1000;
         }
 
-        int secondTurning(Cup cup, int ring) {
-            int above = cup.heights() - 1;
-            if (above < 1 || ring < 0 || ring >= MOST_RINGS) {
+        int secondTurning(int ring, int heights) {
+            int above = heights - 1;
+            if (above < 1 || heights > MOST_HEIGHTS || ring < 0 || ring >= MOST_RINGS) {
                 return 0;
             }
             int squares = 0;
@@ -850,7 +850,7 @@ public final class LeavesInCups {
     }
 
     public int second(int ring) {
-        return theCup.hasRing(ring) ? brew.secondTurning(theCup, ring) : ROUND_UNKNOWN;
+        return theCup.hasRing(ring) ? brew.secondTurning(ring, theCup.heights()) : ROUND_UNKNOWN;
     }
 
     public int would(int doing, int many, int ring) {
@@ -862,7 +862,7 @@ public final class LeavesInCups {
         }
         trial.calm(leaves);
         trial.doTicks(theCup, leaves, doingOrRest(doing), many);
-        return trial.secondTurning(theCup, ring);
+        return trial.secondTurning(ring, theCup.heights());
     }
 
     // ---- rows
@@ -1153,7 +1153,7 @@ public final class LeavesInCups {
             }
         }
         for (int ring = 0; ring < theCup.rings(); ring++) {
-            h = 31 * h + brew.secondTurning(theCup, ring);
+            h = 31 * h + brew.secondTurning(ring, theCup.heights());
         }
         for (int ring = 0; ring < theCup.rings(); ring++) {
             h = 31 * h + wanted[ring];

@@ -33,6 +33,26 @@ final class EdgesOfAll {
     private void imageInTerms() {
         said.in("Terms");
         said.says("An IMAGE keeps ROUNDS, where LEAVES are, WANT, SEEN.");
+        LeavesInCups x = moved();
+        long ahead = x.digest();
+        x.image();
+        Edges.then(x, AGAINST, 20, 40);
+        for (int ring = 0; ring < 6; ring++) {
+            x.want(ring, ring);
+        }
+        for (int leaf = 0; leaf < 8; leaf++) {
+            x.seen(leaf, NONE);
+        }
+        LeavesInCups twin = moved();
+        said.is("the same calls", twin.digest(), ahead);
+        twin.doing(AGAINST, 20);
+        said.isTrue("all is another", x.digest() != twin.digest());
+        x.restore();
+        said.is("all is as it was, but for the doing that came", x.digest(), twin.digest());
+    }
+
+    /** Water that goes round, with leaves in all rings, and all wanted and seen somewhere. */
+    private static LeavesInCups moved() {
         LeavesInCups x = Edges.after("r6h4f9w5m5", STIRRED, 20, 7);
         for (int leaf = 0; leaf < 8; leaf++) {
             x.leaf(5 - leaf % 6, leaf, leaf % 3);
@@ -42,30 +62,7 @@ final class EdgesOfAll {
             x.want(ring, ring + 3);
         }
         Edges.then(x, TURNED, 40, 3);
-        x.image();
-        long ahead = x.digest();
-        Edges.then(x, AGAINST, 20, 40);
-        for (int ring = 0; ring < 6; ring++) {
-            x.want(ring, ring);
-        }
-        for (int leaf = 0; leaf < 8; leaf++) {
-            x.seen(leaf, NONE);
-        }
-        said.isTrue("all is another", x.digest() != ahead);
-        x.restore();
-        said.is("four doings as they came, three of them in the digest", x.count(1), 3);
-        LeavesInCups y = Edges.after("r6h4f9w5m5", STIRRED, 20, 7);
-        for (int leaf = 0; leaf < 8; leaf++) {
-            y.leaf(5 - leaf % 6, leaf, leaf % 3);
-            y.seen(leaf, leaf % 6);
-        }
-        for (int ring = 0; ring < 6; ring++) {
-            y.want(ring, ring + 3);
-        }
-        Edges.then(y, TURNED, 40, 3);
-        said.is("without the doing that came", y.digest(), ahead);
-        y.doing(AGAINST, 20);
-        said.is("all is as it was", x.digest(), y.digest());
+        return x;
     }
 
     /** An object that has all that it can have: six rings, eight doings, and so on, and an older image. */
@@ -401,6 +398,13 @@ final class EdgesOfAll {
         Made.row(x, "7*60,6*1");
         said.is("of one", x.digest(), Edges.digestOf(2, 3, 0, 9, 5, 1, 5, 16, 19, 0, 0, 0, 2, 0, 7, 0,
             1, 20, 0, 0, 1, 1, 8, 3, 0, NONE, 0, 0, 9, 4, 2, 1, 2, 7, 60, 6, 1, 1, 0, 2, 2, 2, 1, 0, 0, 0, 1, 0));
+        LeavesInCups one = Made.withCup("r2h2f0w0m0");
+        Made.row(one, "0*1");
+        said.is("without a leaf", one.digest(), Edges.digestOf(2, 2, 0, 0, 0, 0, 0, 0, 0, 0, 0, 0, 0, 0, 1, 0, 1,
+            2, 0, 0, 1, 0, 0, 0, 1, 0));
+        one.leaf(1, 9, 9);
+        said.is("with one", one.digest(), Edges.digestOf(2, 2, 0, 0, 0, 0, 0, 0, 0, 0, 0, 0, 0, 0, 1, 1, 9, 9, 0, NONE,
+            1, 0, 1, 1, 2, 0, 1, 1, 0, 0, 0, 1, 0));
         LeavesInCups none = new LeavesInCups();
         Made.row(none, LONGEST);
         Made.row(none, "0*1");

@@ -232,6 +232,15 @@ final class EdgesOfRows {
         edge.want(0, 1);
         said.is("20, found by a search", edge.found(0), 20);
         said.is("in 6", edge.found(1), 6);
+        LeavesInCups above = Made.withCup("r2h2f0w4m1");
+        above.leaf(1, 3, 6);
+        above.want(0, 1);
+        said.is("21 would do it, found by a search", above.found(2), 2);
+        LeavesInCups longer = Made.withCup("r2h3f1w0m1");
+        longer.leaf(1, 2, 3);
+        longer.want(0, 1);
+        said.is("1 in 21 would do it, found by a search", longer.found(0), 2);
+        said.is("but 2 in 11 do", longer.found(1), 11);
         said.says("of like ones the least n, then t.");
         LeavesInCups x = Made.withCup("r3h2f9w0m0");
         x.leaf(2, 0, 3);

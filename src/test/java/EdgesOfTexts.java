@@ -432,6 +432,13 @@ final class EdgesOfTexts {
             said.is("least: cupTold(" + what + ")", least.cupTold(what), told[0][what]);
             said.is("most: cupTold(" + what + ")", most.cupTold(what), told[1][what]);
         }
+        LeavesInCups often = new LeavesInCups();
+        for (int cups = 0; cups < 8; cups++) {
+            Made.cup(often, cups % 3 == 0 ? "r6h4f9w8m7q" : "r2h2f0w0m0");
+            for (int what = 0; what <= 5; what++) {
+                said.is("cup " + cups + ": cupTold(" + what + ")", often.cupTold(what), told[cups % 3 == 0 ? 1 : 0][what]);
+            }
+        }
         said.says("STATE: there is none;");
         for (int what = -1; what <= 6; what++) {
             said.is("without a cup: cupTold(" + what + ")", Edges.page("r2h2f0w0m0").cupTold(what), STATE);

@@ -240,6 +240,9 @@ final class EdgesOfTicks {
             one.leaf(1, weight, 0);
             said.is("weight " + weight + " by 1600", one.about(0, 4), deep[weight]);
         }
+        LeavesInCups under = Edges.after("r2h2f9w0m0", TURNED, 38, 2);
+        under.leaf(0, 9, 0);
+        said.is("-14 less 12996 by 1000", under.about(0, 4), -26);
         LeavesInCups wall = Edges.after("r2h2f0w9m0", STIRRED, 20, 1);
         wall.leaf(0, 0, 0);
         wall.leaf(1, 0, 0);
