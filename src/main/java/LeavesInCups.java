@@ -235,17 +235,13 @@ public final class LeavesInCups {
             seen = new int[most];
         }
 
-        boolean isFull() {
-            return many >= told.length;
-        }
-
         boolean has(int leaf) {
             return leaf >= 0 && leaf < many;
         }
 
         /** Its number; FULL: there is no place for it. */
         int add(int ring, int itsWeight, int itsStick) {
-            if (isFull()) {
+            if (many >= told.length) {
                 return FULL;
             }
             told[many] = ring;
@@ -615,17 +611,15 @@ public final class LeavesInCups {
         private final int[] behind = new int[MOST_PICTURES];
         private int many = 0;
 
-        boolean isFull() {
-            return many >= MOST_PICTURES;
-        }
-
-        void add(int itsAhead, int itsBehind) {
-            if (isFull()) {
-                return;
+        /** How many there are then; FULL: there is no place for it. */
+        int add(int itsAhead, int itsBehind) {
+            if (many >= MOST_PICTURES) {
+                return FULL;
             }
             ahead[many] = itsAhead;
             behind[many] = itsBehind;
             many++;
+            return many;
         }
 
         /** By a floor, how far what it leaves is off, all sizes together. */
@@ -676,7 +670,14 @@ public final class LeavesInCups {
 
     private final Pictures pictures = new Pictures();
 
+    /** Every place of a row is filled from the start, so that none is ever found empty. */
     public LeavesInCups() {
+        for (int i = 0; i < MOST_DOINGS; i++) {
+            doings[i] = resting;
+        }
+        for (int i = 0; i < MOST_ROWS; i++) {
+            rows[i] = new Row();
+        }
     }
 
     // ---- texts
@@ -727,8 +728,9 @@ public final class LeavesInCups {
         if (rowCount >= MOST_ROWS) {
             return FULL;
         }
+        Row empty = rows[rowCount];
         rows[rowCount] = triedRow;
-        triedRow = new Row();
+        triedRow = empty;
         rowCount++;
         page.clear();
         return rowCount - 1;
@@ -783,11 +785,10 @@ public final class LeavesInCups {
         if (!isWithin(weight, 0, 9) || !isWithin(stick, 0, 9)) {
             return OUTSIDE;
         }
-        if (leaves.isFull()) {
-            return FULL;
-        }
         int number = leaves.add(ring, weight, stick);
-        brew.lying[number] = ring;
+        if (leaves.has(number)) {
+            brew.lying[number] = ring;
+        }
         return number;
     }
 
@@ -871,7 +872,7 @@ public final class LeavesInCups {
         if (!hasRow(row) || !leaves.has(leaf)) {
             return UNKNOWN;
         }
-        tryRow(row, leaves);
+        tryRow(rows[row], leaves);
         return trial.lying[leaf];
     }
 
@@ -879,7 +880,7 @@ public final class LeavesInCups {
         if (!hasRow(row) || !leaves.has(leaf)) {
             return UNKNOWN;
         }
-        tryRow(row, leaves);
+        tryRow(rows[row], leaves);
         int ring = trial.lying[leaf];
         return ring == 0 ? 0 : ring == theCup.rings() - 1 ? 2 : 1;
     }
@@ -895,7 +896,7 @@ public final class LeavesInCups {
         for (int weight = 0; weight < WEIGHTS; weight++) {
             weighed.add(ring, weight, stick);
         }
-        tryRow(row, weighed);
+        tryRow(rows[row], weighed);
         for (int weight = 0; weight < WEIGHTS; weight++) {
             if (trial.lying[weight] != 0) {
                 return weight;
@@ -923,7 +924,7 @@ public final class LeavesInCups {
         if (!hasCup()) {
             return STATE;
         }
-        tryRow(row, leaves);
+        tryRow(rows[row], leaves);
         return offInTrial();
     }
 
@@ -970,7 +971,7 @@ public final class LeavesInCups {
         }
         int bits = 0;
         for (int row = 0; row < rowCount; row++) {
-            tryRow(row, leaves);
+            tryRow(rows[row], leaves);
             bits |= isTrialAsSeen() ? 1 << row : 0;
         }
         return bits;
@@ -983,7 +984,7 @@ public final class LeavesInCups {
         int best = NONE;
         int mostRings = NONE;
         for (int row = 0; row < rowCount; row++) {
-            tryRow(row, leaves);
+            tryRow(rows[row], leaves);
             int rings = ringsInTrial();
             if (rings > mostRings) {
                 mostRings = rings;
@@ -997,7 +998,7 @@ public final class LeavesInCups {
         if (!hasRow(row) || !leaves.has(a) || !leaves.has(b)) {
             return UNKNOWN;
         }
-        tryRow(row, leaves);
+        tryRow(rows[row], leaves);
         return Math.abs(trial.lying[a] - trial.lying[b]);
     }
 
@@ -1005,11 +1006,7 @@ public final class LeavesInCups {
         if (!isWithin(ahead, -MOST_ROUND, MOST_ROUND) || !isWithin(behind, -MOST_ROUND, MOST_ROUND)) {
             return OUTSIDE;
         }
-        if (pictures.isFull()) {
-            return FULL;
-        }
-        pictures.add(ahead, behind);
-        return pictures.many;
+        return pictures.add(ahead, behind);
     }
 
     public int drag() {
@@ -1190,7 +1187,7 @@ public final class LeavesInCups {
                 h = 31 * h + told.ticking[item];
             }
             if (leaves.many > 0) {
-                tryRow(i, leaves);
+                tryRow(told, leaves);
             }
             for (int leaf = 0; leaf < leaves.many; leaf++) {
                 h = 31 * h + trial.lying[leaf];
@@ -1252,9 +1249,8 @@ public final class LeavesInCups {
     }
 
     /** Behind it the trial holds where these leaves end by the row. */
-    private void tryRow(int number, Leaves tried) {
+    private void tryRow(Row told, Leaves tried) {
         trial.calm(tried);
-        Row told = rows[number];
         for (int item = 0; item < told.items; item++) {
             trial.doTicks(theCup, tried, doingOrRest(told.doing[item]), told.ticking[item]);
         }
